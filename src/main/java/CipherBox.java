@@ -26,7 +26,7 @@ public final class CipherBox {
     private final Row start = new Row(BEGIN_BYTES);
     private final Des3 des3 = new Des3();
     private final Aes aes = new Aes();
-    private final Cmac cmac = new Cmac(aes);
+    private final Cmac cmac = new Cmac();
     private final Sha256 sha = new Sha256();
     private int keyType = NONE;
 
@@ -100,7 +100,12 @@ public final class CipherBox {
     }
 
     public int mac(int kind) {
-        int answer = writeMac(kind);
+        int answer = NONE;
+        if (keyType == TYPE_DES3 && (kind == 0 || kind == 1)) {
+            answer = writeDesMac(kind == 1);
+        } else if (keyType == TYPE_AES && kind == 2) {
+            answer = writeCmac();
+        }
         tape.cut(0);
         return answer;
     }
@@ -217,18 +222,6 @@ public final class CipherBox {
         return written.size();
     }
 
-    private int writeMac(int kind) {
-        switch (kind) {
-            case 0:
-            case 1:
-                return keyType == TYPE_DES3 ? writeDesMac(kind == 1) : NONE;
-            case 2:
-                return keyType == TYPE_AES ? writeCmac() : NONE;
-            default:
-                return NONE;
-        }
-    }
-
     private int writeDesMac(boolean retail) {
         work.become(tape);
         work.addPadding(8);
@@ -243,7 +236,7 @@ public final class CipherBox {
 
     private int writeCmac() {
         written.cut(0);
-        cmac.tag(tape, written, Aes.BLOCK);
+        cmac.tag(aes, tape, written, Aes.BLOCK);
         return written.size();
     }
 
@@ -258,7 +251,7 @@ public final class CipherBox {
         int tags = (n + Aes.BLOCK - 1) / Aes.BLOCK;
         for (int i = 1; i <= tags; i++) {
             layDerivation(c, n, i);
-            cmac.tag(work, written, Math.min(Aes.BLOCK, n - written.size()));
+            cmac.tag(aes, work, written, Math.min(Aes.BLOCK, n - written.size()));
         }
         return written.size();
     }
@@ -303,11 +296,11 @@ public final class CipherBox {
         }
 
         int wordAt(int i) {
-            return at(i) << 24 | at(i + 1) << 16 | at(i + 2) << 8 | at(i + 3);
+            return (at(i) << 24) | (at(i + 1) << 16) | (at(i + 2) << 8) | at(i + 3);
         }
 
         long longAt(int i) {
-            return (long) wordAt(i) << 32 | wordAt(i + 4) & 0xffffffffL;
+            return ((long) wordAt(i) << 32) | (wordAt(i + 4) & 0xffffffffL);
         }
 
         void add(int value) {
@@ -502,22 +495,20 @@ public final class CipherBox {
             last.schedule(key.longAt(8));
         }
 
-        @Override
+        /** The final permutation of one DES undoes the initial one of the next: only the outermost are done. */
         void codeThere() {
-            codeThrice(false);
-        }
-
-        @Override
-        void codeBack() {
-            codeThrice(true);
-        }
-
-        /** The final permutation of one DES undoes the initial one of the next: only the outermost are left. */
-        private void codeThrice(boolean back) {
             long halves = Des.permute(gathered(), 64, Des.INITIAL);
-            halves = first.rounds(halves, back);
-            halves = last.rounds(halves, !back);
-            halves = first.rounds(halves, back);
+            halves = first.rounds(halves, false);
+            halves = last.rounds(halves, true);
+            halves = first.rounds(halves, false);
+            spread(Des.permute(halves, 64, Des.FINAL));
+        }
+
+        void codeBack() {
+            long halves = Des.permute(gathered(), 64, Des.INITIAL);
+            halves = first.rounds(halves, true);
+            halves = last.rounds(halves, false);
+            halves = first.rounds(halves, true);
             spread(Des.permute(halves, 64, Des.FINAL));
         }
 
@@ -534,7 +525,7 @@ public final class CipherBox {
         private long gathered() {
             long value = 0;
             for (int one : block) {
-                value = value << 8 | one & 255;
+                value = (value << 8) | (one & 255);
             }
             return value;
         }
@@ -642,11 +633,11 @@ public final class CipherBox {
             int[] made = new int[BOXES * BOX_LENGTH];
             for (int i = 0; i < made.length; i++) {
                 int box = i >> 6;
-                int row = i >> 4 & 2 | i & 1;
-                int column = i >> 1 & 15;
+                int row = ((i >> 4) & 2) | (i & 1);
+                int column = (i >> 1) & 15;
                 int four = SELECTIONS[box * BOX_LENGTH + row * 16 + column];
                 for (int bit = 0; bit < 4; bit++) {
-                    made[i] |= (four >> (3 - bit) & 1) << goal[box * 4 + bit];
+                    made[i] |= ((four >> (3 - bit)) & 1) << goal[box * 4 + bit];
                 }
             }
             return made;
@@ -655,7 +646,7 @@ public final class CipherBox {
         static long permute(long value, int width, int[] places) {
             long made = 0;
             for (int place : places) {
-                made = made << 1 | value >>> (width - place) & 1;
+                made = (made << 1) | ((value >>> (width - place)) & 1);
             }
             return made;
         }
@@ -667,7 +658,7 @@ public final class CipherBox {
             for (int round = 0; round < ROUNDS; round++) {
                 upper = turnHalf(upper, LEFT_SHIFTS[round]);
                 lower = turnHalf(lower, LEFT_SHIFTS[round]);
-                long parts = permute((long) upper << 28 | lower, 56, CHOICE_2);
+                long parts = permute(((long) upper << 28) | lower, 56, CHOICE_2);
                 for (int box = 0; box < BOXES; box++) {
                     roundKeys[round * BOXES + box] = (int) (parts >>> (42 - 6 * box)) & 63;
                 }
@@ -675,7 +666,7 @@ public final class CipherBox {
         }
 
         private static int turnHalf(int half, int by) {
-            return (half << by | half >>> (28 - by)) & HALF_KEY;
+            return ((half << by) | (half >>> (28 - by))) & HALF_KEY;
         }
 
         long coded(long value, boolean back) {
@@ -690,14 +681,15 @@ public final class CipherBox {
                 left = right;
                 right = next;
             }
-            return (long) right << 32 | left & 0xffffffffL;
+            return ((long) right << 32) | (left & 0xffffffffL);
         }
 
-        /** The expansion's six bits for a box are neighbours in the half, so a turn brings them to the end. */
+        /** Six bits for a box overlap its neighbours' by two: the half, with its end bits once more around it, has all. */
         private int scrambled(int half, int round) {
+            long ring = ((long) (half & 1) << 33) | ((half & 0xffffffffL) << 1) | (half >>> 31);
             int made = 0;
             for (int box = 0; box < BOXES; box++) {
-                int six = (turnRight(half, 27 - 4 * box) ^ roundKeys[round * BOXES + box]) & 63;
+                int six = ((int) (ring >>> (28 - 4 * box)) ^ roundKeys[round * BOXES + box]) & 63;
                 made |= boxes[box * BOX_LENGTH + six];
             }
             return made;
@@ -754,7 +746,7 @@ public final class CipherBox {
             for (int i = words; i < total; i++) {
                 int word = roundKeys[i - 1];
                 if (phase == 0) {
-                    word = substituted(turnRight(word, 24)) ^ roundConstant << 24;
+                    word = substituted(turnRight(word, 24)) ^ (roundConstant << 24);
                     roundConstant = doubled(roundConstant);
                 } else if (words == 8 && phase == 4) {
                     word = substituted(word);
@@ -765,9 +757,9 @@ public final class CipherBox {
         }
 
         private static int substituted(int word) {
-            return SUBSTITUTES[word >>> 24] << 24
-                | SUBSTITUTES[word >>> 16 & 255] << 16
-                | SUBSTITUTES[word >>> 8 & 255] << 8
+            return (SUBSTITUTES[word >>> 24] << 24)
+                | (SUBSTITUTES[(word >>> 16) & 255] << 16)
+                | (SUBSTITUTES[(word >>> 8) & 255] << 8)
                 | SUBSTITUTES[word & 255];
         }
 
@@ -777,7 +769,6 @@ public final class CipherBox {
             return (twice & 256) == 0 ? twice : twice ^ 0x11b;
         }
 
-        @Override
         void codeThere() {
             addRoundKey(0);
             for (int round = 1; round < rounds; round++) {
@@ -789,7 +780,6 @@ public final class CipherBox {
             addRoundKey(rounds);
         }
 
-        @Override
         void codeBack() {
             addRoundKey(rounds);
             for (int round = rounds - 1; round > 0; round--) {
@@ -806,8 +796,8 @@ public final class CipherBox {
                 int word = roundKeys[4 * round + column];
                 int at = 4 * column;
                 block[at] ^= word >>> 24;
-                block[at + 1] ^= word >>> 16 & 255;
-                block[at + 2] ^= word >>> 8 & 255;
+                block[at + 1] ^= (word >>> 16) & 255;
+                block[at + 2] ^= (word >>> 8) & 255;
                 block[at + 3] ^= word & 255;
             }
         }
@@ -851,18 +841,13 @@ public final class CipherBox {
         }
     }
 
-    /** The code of SP 800-38B by the AES that it is given. */
+    /** The code of SP 800-38B, by an AES whose key has been scheduled. */
     private static final class Cmac {
-        private final Aes aes;
         private final int[] subkey = new int[Aes.BLOCK];
 
-        Cmac(Aes aes) {
-            this.aes = aes;
-        }
-
-        void tag(Row message, Row to, int count) {
+        void tag(Aes aes, Row message, Row to, int count) {
             boolean whole = aes.isWhole(message.size());
-            makeSubkey(whole);
+            makeSubkey(aes, whole);
             int ahead = whole ? aes.blocksIn(message) - 1 : aes.blocksIn(message);
             aes.zero();
             aes.absorb(message, ahead);
@@ -877,7 +862,7 @@ public final class CipherBox {
             aes.storeFirst(to, count);
         }
 
-        private void makeSubkey(boolean whole) {
+        private void makeSubkey(Aes aes, boolean whole) {
             aes.zero();
             aes.codeThere();
             System.arraycopy(aes.block, 0, subkey, 0, Aes.BLOCK);
@@ -890,9 +875,9 @@ public final class CipherBox {
         private void doubleSubkey() {
             int carry = subkey[0] >> 7;
             for (int i = 0; i < Aes.BLOCK - 1; i++) {
-                subkey[i] = (subkey[i] << 1 | subkey[i + 1] >> 7) & 255;
+                subkey[i] = ((subkey[i] << 1) | (subkey[i + 1] >> 7)) & 255;
             }
-            subkey[Aes.BLOCK - 1] = subkey[Aes.BLOCK - 1] << 1 & 255 ^ (carry == 0 ? 0 : 0x87);
+            subkey[Aes.BLOCK - 1] = ((subkey[Aes.BLOCK - 1] << 1) & 255) ^ (carry == 0 ? 0 : 0x87);
         }
     }
 
@@ -939,8 +924,8 @@ public final class CipherBox {
             for (int i = 16; i < 64; i++) {
                 int early = words[i - 15];
                 int late = words[i - 2];
-                int earlyMix = turnRight(early, 7) ^ turnRight(early, 18) ^ early >>> 3;
-                int lateMix = turnRight(late, 17) ^ turnRight(late, 19) ^ late >>> 10;
+                int earlyMix = turnRight(early, 7) ^ turnRight(early, 18) ^ (early >>> 3);
+                int lateMix = turnRight(late, 17) ^ turnRight(late, 19) ^ (late >>> 10);
                 words[i] = words[i - 16] + earlyMix + words[i - 7] + lateMix;
             }
         }
@@ -955,8 +940,8 @@ public final class CipherBox {
             int g = state[6];
             int h = state[7];
             for (int i = 0; i < 64; i++) {
-                int chosen = e & f ^ ~e & g;
-                int most = a & b ^ a & c ^ b & c;
+                int chosen = (e & f) ^ (~e & g);
+                int most = (a & b) ^ (a & c) ^ (b & c);
                 int one = h + (turnRight(e, 6) ^ turnRight(e, 11) ^ turnRight(e, 25)) + chosen + CONSTANTS[i] + words[i];
                 int two = (turnRight(a, 2) ^ turnRight(a, 13) ^ turnRight(a, 22)) + most;
                 h = g;
