@@ -16,6 +16,44 @@ final class Model {
     byte[] key = {};
     int type = NONE;
 
+    static Model withKey(int type, String hex) {
+        Model model = new Model();
+        model.tape = Boxes.bytesOf(hex);
+        model.key(type);
+        return model;
+    }
+
+    String macOf(int kind, String hex) {
+        tape = Boxes.bytesOf(hex);
+        mac(kind);
+        return Boxes.hexOf(written);
+    }
+
+    String codeOf(boolean chained, boolean back, String hex) {
+        tape = Boxes.bytesOf(hex);
+        code(chained, back);
+        return Boxes.hexOf(written);
+    }
+
+    String deriveOf(int c, int n, String hex) {
+        tape = Boxes.bytesOf(hex);
+        derive(c, n);
+        return Boxes.hexOf(written);
+    }
+
+    static String hashOf(String hex) {
+        Model model = new Model();
+        model.tape = Boxes.bytesOf(hex);
+        model.hash();
+        return Boxes.hexOf(model.written);
+    }
+
+    /** One DES by a key of eight bytes, in CBC if there is an iv. */
+    static String des(String key, String iv, boolean back, String hex) {
+        byte[] from = iv == null ? null : Boxes.bytesOf(iv);
+        return Boxes.hexOf(run("DES", Boxes.bytesOf(key), from, back, Boxes.bytesOf(hex)));
+    }
+
     private static byte[] join(byte[]... parts) {
         byte[] made = {};
         for (byte[] part : parts) {
