@@ -59,10 +59,10 @@ final class Sentences {
         }
     }
 
-    /** What is left of a promise or of the terms when the tested words are struck out must be no word. */
+    /** What is left of a section when the tested words are struck out must be no word; the last promises nothing. */
     private void findUntested() {
         sections.forEach((heading, text) -> {
-            if (heading.equals("Terms") || heading.startsWith("Promise ")) {
+            if (!heading.equals("Not promised")) {
                 String rest = text.replaceAll("`[^`]*`", "");
                 List<String> longestFirst = new ArrayList<>(tested.getOrDefault(heading, List.of()));
                 longestFirst.sort(Comparator.comparingInt(String::length).reversed());

@@ -19,8 +19,6 @@ final class TermSentences {
     }
 
     static void testAll(Sentences sentences) {
-        sentences.test("What it is", "An object is used for at most 512 calls after it has been made",
-            TermSentences::calls512);
         sentences.test(TERMS, "BYTES are 0 .. 255;", TermSentences::bytes);
         sentences.test(TERMS, "numbers of several bytes have the highest first.", TermSentences::highestFirst);
         sentences.test(TERMS, "THE TAPE has at most 400 bytes;", TermSentences::tapeAtMost400);
@@ -42,20 +40,6 @@ final class TermSentences {
         sentences.test(TERMS, "xi is 11 bytes 0, c, 0, 8 * n as two bytes, i, t.", TermSentences::kdfRows);
         sentences.test(TERMS, "At first there is no KEY;", TermSentences::noKeyAtFirst);
         sentences.test(TERMS, "BEGIN is sixteen 0s.", TermSentences::beginAtFirst);
-    }
-
-    /** The 512th call is answered like the first: 480 for a chain of hashes, 32 to read the last. */
-    private static void calls512(Checks checks) {
-        CipherBox box = new CipherBox();
-        String want = "";
-        for (int i = 0; i < 240; i++) {
-            checks.due("take() " + i, box.take(), i == 0 ? 0 : 32);
-            checks.due("hash() " + i, box.hash(), 32);
-            want = Model.hashOf(want);
-        }
-        for (int i = 0; i < 32; i++) {
-            checks.due("out(" + i + ")", box.out(i), Integer.parseInt(want.substring(2 * i, 2 * i + 2), 16));
-        }
     }
 
     private static void bytes(Checks checks) {

@@ -1,64 +1,38 @@
 import java.io.IOException;
 import java.lang.management.ManagementFactory;
-import java.lang.reflect.Constructor;
 import java.lang.reflect.Field;
 import java.lang.reflect.Method;
 import java.lang.reflect.Modifier;
 import java.nio.file.Files;
 import java.nio.file.Path;
 import java.util.Set;
-import java.util.TreeSet;
 import java.util.regex.Pattern;
 
-/** The document's face and no more, the rules of LANGUAGE.md that a look can tell, and the room. */
-public final class FaceTest {
-    private static final Checks CHECKS = new Checks("face");
+/** The rules of LANGUAGE.md that a look can tell, and the room that calls take. */
+public final class LanguageTest {
+    private static final Checks CHECKS = new Checks("language");
     private static final Set<String> NAMES = Set.of("feed", "end", "out", "take", "key", "begin", "code", "pad", "unpad",
         "mac", "derive", "hash", "same", "about");
-    private static final Set<String> FACE = Set.of("int feed(int, int, int, int, int)", "int end(int)", "int out(int)",
-        "int take()", "int key(int)", "int begin()", "int code(boolean, boolean)", "int pad(int)", "int unpad()",
-        "int mac(int)", "int derive(int, int)", "int hash()", "int same()", "int about(int)");
     private static final String[] FORBIDDEN = {
         "throw", "throws", "try", "catch", "synchronized", "assert", "package", "->", "::", "Exact\\b", "equals",
         "hashCode", "toString", "static\\s*\\{", "java\\.util\\.(?!Arrays;)", "System\\.(?!arraycopy)",
     };
 
     public static void main(String[] args) throws IOException {
-        face();
+        names();
+        staticFields(CipherBox.class);
         nestedClasses();
         source();
         room();
         CHECKS.close();
     }
 
-    private static void face() {
-        CHECKS.due("class", Modifier.toString(CipherBox.class.getModifiers()), "public final");
-        Set<String> found = new TreeSet<>();
+    private static void names() {
         for (Method method : CipherBox.class.getDeclaredMethods()) {
-            if (Modifier.isPublic(method.getModifiers())) {
-                found.add(signature(method));
-            } else {
-                CHECKS.due(method + " is private", Modifier.isPrivate(method.getModifiers()) ? 1 : 0, 1);
+            if (Modifier.isPrivate(method.getModifiers())) {
                 CHECKS.due(method + " has a name of the face", NAMES.contains(method.getName()) ? 1 : 0, 0);
             }
         }
-        CHECKS.due("methods", found.toString(), new TreeSet<>(FACE).toString());
-        Constructor<?>[] makers = CipherBox.class.getDeclaredConstructors();
-        CHECKS.due("constructors", makers.length, 1);
-        CHECKS.due("constructor", makers[0].toString(), "public CipherBox()");
-        for (Field field : CipherBox.class.getDeclaredFields()) {
-            boolean constant = field.getName().equals("NONE");
-            CHECKS.due(field + " hidden", Modifier.isPrivate(field.getModifiers()) ? 1 : 0, constant ? 0 : 1);
-        }
-        CHECKS.due("NONE", CipherBox.NONE, -1);
-    }
-
-    private static String signature(Method method) {
-        StringBuilder made = new StringBuilder(method.getReturnType() + " " + method.getName() + "(");
-        for (Class<?> type : method.getParameterTypes()) {
-            made.append(made.charAt(made.length() - 1) == '(' ? "" : ", ").append(type);
-        }
-        return made.append(")").toString();
     }
 
     private static void nestedClasses() {
@@ -67,14 +41,18 @@ public final class FaceTest {
         for (Class<?> one : nested) {
             CHECKS.due(one + " static", Modifier.isStatic(one.getModifiers()) ? 1 : 0, 1);
             CHECKS.due(one + " hidden", Modifier.isPublic(one.getModifiers()) ? 1 : 0, 0);
-            for (Field field : one.getDeclaredFields()) {
-                boolean changing = Modifier.isStatic(field.getModifiers()) && !Modifier.isFinal(field.getModifiers());
-                CHECKS.due(field + " is static and not final", changing ? 1 : 0, 0);
-            }
+            staticFields(one);
             for (Method method : one.getDeclaredMethods()) {
                 CHECKS.due(method + " has a name of the face", NAMES.contains(method.getName()) ? 1 : 0, 0);
                 CHECKS.due(method + " parameters", method.getParameterCount() <= 7 ? 1 : 0, 1);
             }
+        }
+    }
+
+    private static void staticFields(Class<?> one) {
+        for (Field field : one.getDeclaredFields()) {
+            boolean changing = Modifier.isStatic(field.getModifiers()) && !Modifier.isFinal(field.getModifiers());
+            CHECKS.due(field + " is static and not final", changing ? 1 : 0, 0);
         }
     }
 
